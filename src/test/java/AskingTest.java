@@ -80,6 +80,13 @@ public final class AskingTest {
         k.combine(2, 0, 1, 2);
         due("21: all but these", "4092 256 1 0",
             () -> k.area(2) + " " + k.edges(2) + " " + k.pieces(2) + " " + k.holes(2));
+        int[][] notches = {{0, -32}, {0, 31}, {-32, 0}, {31, 0}};
+        for (int[] at : notches) {
+            k.clear(4);
+            k.addRectangle(4, at[0], at[1], 1, 1);
+            k.combine(5, 0, 4, 2);
+            due("21: a notch at " + at[0] + ", " + at[1], "0 258", () -> k.holes(5) + " " + k.edges(5));
+        }
         k.addRectangle(3, -31, -31, 62, 62);
         k.combine(3, 0, 3, 2);
         due("21: a frame", "252 504 1 1",
@@ -380,6 +387,13 @@ public final class AskingTest {
         due("34: as far as can be", "true true", () -> k.isSameForm(3, 4) + " " + k.isSameForm(4, 3));
         k.addRectangle(5, -32, 0, 64, 1);
         k.addRectangle(6, 0, -32, 1, 64);
+        Checks.draw(k, 1, 20, 30, "##./###");
+        Checks.draw(k, 2, -20, 30, ".##/###");
+        due("34: at the upper limit", "false true", () -> {
+            boolean ahead = k.isSameForm(1, 2);
+            k.mirror(2);
+            return ahead + " " + k.isSameForm(1, 2);
+        });
         due("34: a row and a column", "false false", () -> k.isSameForm(5, 6) + " " + k.isSameForm(6, 5));
         CHECKS.refused("34: no region 8", INDEX, k, () -> k.isSameForm(8, 0));
         CHECKS.refused("34: no other region -1", INDEX, k, () -> k.isSameForm(0, -1));

@@ -129,6 +129,8 @@ public final class ChangesTest {
         due("9: left and up", 5, () -> k.move(0, -61, 61));
         due("9: to the other limits", "-32 29 -30 31", () -> bounds(k, 0));
         due("9: by 0", 5, () -> k.move(0, 0, 0));
+        due("9: by 1 down", 5, () -> k.move(0, 0, -1));
+        due("9: by 1 up", 5, () -> k.move(0, 0, 1));
         due("9: its fields there", "#../##./.##", () -> Checks.drawn(k, 0, -32, 29, 3, 3));
         due("9: the empty region by 64", 0, () -> k.move(1, 64, -64));
         due("9: the empty region by -64", 0, () -> k.move(1, -64, 64));
@@ -184,6 +186,10 @@ public final class ChangesTest {
         due("11: twice", "5 0 0 2 2", () -> k.mirror(0) + " " + bounds(k, 0));
         k.addRectangle(1, 31, -32, 1, 2);
         due("11: at the limit", "2 -32 -32 -32 -31", () -> k.mirror(1) + " " + bounds(k, 1));
+        k.addRectangle(1, 30, 31, 2, 1);
+        due("11: at two limits", 4, () -> k.mirror(1));
+        due("11: the upper one", "##./...", () -> Checks.drawn(k, 1, -32, 30, 3, 2));
+        due("11: the lower one", "..#/..#", () -> Checks.drawn(k, 1, 29, -32, 3, 2));
         due("11: the empty region", 0, () -> k.mirror(2));
         CHECKS.refused("11: no region 8", INDEX, k, () -> k.mirror(8));
         CHECKS.refused("11: no region -1", INDEX, k, () -> k.mirror(-1));
