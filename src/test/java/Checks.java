@@ -4,8 +4,14 @@ final class Checks {
         Object run();
     }
 
+    private String under = "";
     private int right;
     private int wrong;
+
+    /** What all that comes is told to be a part of. */
+    void under(String name) {
+        under = name + ": ";
+    }
 
     /** What a call answers, or throws.Name for the exception that it throws. */
     static String answer(Call call) {
@@ -25,7 +31,7 @@ final class Checks {
             right++;
         } else {
             wrong++;
-            System.out.println(what + " answered " + got + ", due is " + want);
+            System.out.println(under + what + " answered " + got + ", due is " + want);
         }
     }
 
