@@ -161,6 +161,13 @@ public final class BoundaryAskingTest {
             Cases.refused(c, "contour " + contour + " of the empty region", Cases.INDEX, ScrimshawKernel::new,
                 k -> ask.on(k, contour));
         }
+        ScrimshawKernel walked = Cases.busy();
+        Object last = ask.on(walked, 2);
+        for (int contour : none) {
+            c.due("contour " + contour + " of 3, behind contour 2", "throws.IndexOutOfBoundsException",
+                () -> ask.on(walked, contour));
+            c.due("and contour 2 once more", last, () -> ask.on(walked, 2));
+        }
         Cases.answers(c, "contour 2047 of 2048", k -> ask.on(k, 2047), Cases::checkers);
         Cases.refused(c, "contour 2048 of 2048", Cases.INDEX, Cases::checkers, k -> ask.on(k, 2048));
     }
@@ -189,6 +196,11 @@ public final class BoundaryAskingTest {
         int[] none = {-1, 4, MIN, MAX};
         for (int corner : none) {
             Cases.refused(c, "corner " + corner + " of 4", Cases.INDEX, Cases::busy, k -> ask.on(k, corner));
+            ScrimshawKernel walked = Cases.busy();
+            Object last = ask.on(walked, 3);
+            c.due("corner " + corner + " of 4, behind corner 3", "throws.IndexOutOfBoundsException",
+                () -> ask.on(walked, corner));
+            c.due("and corner 3 once more", last, () -> ask.on(walked, 3));
         }
     }
 
@@ -301,6 +313,10 @@ public final class BoundaryAskingTest {
         int[] none = {-1, 4, MIN, MAX};
         for (int strip : none) {
             Cases.refused(c, "strip " + strip + " of 4", Cases.INDEX, Cases::busy, k -> k.strip(2, strip, 0));
+            ScrimshawKernel asked = Cases.busy();
+            c.due("strip 3 of 4", "31 31 1 1", () -> Cases.strip(asked, 2, 3));
+            c.due("strip " + strip + " of 4, behind strip 3", "throws.IndexOutOfBoundsException",
+                () -> asked.strip(2, strip, 0));
         }
         int[] noneAtAll = {-1, 0, 1, MIN, MAX};
         for (int strip : noneAtAll) {
@@ -544,6 +560,17 @@ public final class BoundaryAskingTest {
         cut.addRectangle(2, 31, 30, 1, 2);
         c.due("to the limit", "true true false false", () -> cut.isSameForm(0, 1) + " " + cut.isSameForm(1, 0) + " "
             + cut.isSameForm(1, 2) + " " + cut.isSameForm(2, 0));
+        int[] ends = {-32, 31};
+        for (int y : ends) {
+            ScrimshawKernel end = new ScrimshawKernel();
+            end.addRectangle(0, 0, -32, 1, 64);
+            end.addRectangle(0, 2, 0, 1, 1);
+            end.combine(1, 0, 0, 0);
+            end.addRectangle(0, 1, y, 1, 1);
+            end.addRectangle(1, 2, y, 1, 1);
+            c.due("as many fields, and another one at y " + y + " alone", "66 66 false false", () -> end.area(0) + " "
+                + end.area(1) + " " + end.isSameForm(0, 1) + " " + end.isSameForm(1, 0));
+        }
     }
 
     @Sentence(of = "Promise 34", says = "Throws `IndexOutOfBoundsException` if there is no such region")

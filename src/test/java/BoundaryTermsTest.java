@@ -332,6 +332,24 @@ public final class BoundaryTermsTest {
             () -> Cases.drawn("#./.#").pieces(0) + " " + Cases.drawn(".#/#.").pieces(0));
         c.due("along a long way", "1 2080", () -> Cases.comb().pieces(0) + " " + Cases.comb().keepPiece(0, -32, 31));
         c.due("along all limits", "1 252", () -> Cases.frame().pieces(0) + " " + Cases.frame().keepPiece(0, 31, 31));
+        for (int n = -31; n < 31; n++) {
+            int gap = n;
+            ScrimshawKernel k = new ScrimshawKernel();
+            k.addRectangle(0, -32, 0, gap + 32, 1);
+            k.addRectangle(0, gap + 1, 0, 31 - gap, 1);
+            k.combine(1, 0, 0, 0);
+            k.turn(1, 1);
+            c.due("not over a field that is not in it, along x " + gap, "2 " + (gap + 32) + " " + (31 - gap), () -> {
+                String of = k.pieces(0) + " " + k.keepPiece(0, -32, 0);
+                k.undo();
+                return of + " " + k.keepPiece(0, 31, 0);
+            });
+            c.due("not over a field that is not in it, along y " + gap, "2 " + (gap + 32) + " " + (31 - gap), () -> {
+                String of = k.pieces(1) + " " + k.keepPiece(1, -1, -32);
+                k.undo();
+                return of + " " + k.keepPiece(1, -1, 31);
+            });
+        }
         ScrimshawKernel k = new ScrimshawKernel();
         k.addRectangle(0, 31, -32, 1, 1);
         k.addRectangle(0, -32, -31, 1, 1);
@@ -361,6 +379,9 @@ public final class BoundaryTermsTest {
         c.due("two with a point in common", 1, () -> allBut(0, 0, 1, 1).holes(0));
         c.due("two with a point in common, the other way", 1, () -> allBut(0, 0, 1, -1).holes(0));
         c.due("two apart", 2, () -> allBut(0, 0, 2, 0).holes(0));
+        c.due("one and two, apart along x", 2, () -> allBut(0, 0, 2, 0, 3, 0).holes(0));
+        c.due("one and two, apart along y", 2, () -> allBut(0, 0, 0, 2, 0, 3).holes(0));
+        c.due("one and one next to a field at the limit, apart", 1, () -> allBut(-32, 0, -30, 0, -29, 0).holes(0));
         int[][] next = {{-31, -31}, {30, -31}, {30, 30}, {-31, 30}};
         int[][] ends = {{-32, -32}, {31, -32}, {31, 31}, {-32, 31}};
         for (int n = 0; n < 4; n++) {
