@@ -560,6 +560,16 @@ public final class BoundaryAskingTest {
         cut.addRectangle(2, 31, 30, 1, 2);
         c.due("to the limit", "true true false false", () -> cut.isSameForm(0, 1) + " " + cut.isSameForm(1, 0) + " "
             + cut.isSameForm(1, 2) + " " + cut.isSameForm(2, 0));
+        ScrimshawKernel less = new ScrimshawKernel();
+        less.addRectangle(0, 0, 0, 2, 2);
+        less.addRectangle(1, 31, 0, 1, 2);
+        less.addRectangle(2, 0, 31, 2, 1);
+        less.addRectangle(3, 31, 31, 1, 1);
+        for (int n = 1; n <= 3; n++) {
+            int other = n;
+            c.due("not without what would be beyond the limits, " + other, "false false",
+                () -> less.isSameForm(0, other) + " " + less.isSameForm(other, 0));
+        }
         int[] ends = {-32, 31};
         for (int y : ends) {
             ScrimshawKernel end = new ScrimshawKernel();
