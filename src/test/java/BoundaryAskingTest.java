@@ -686,6 +686,28 @@ public final class BoundaryAskingTest {
         c.due("none is left", none, () -> k.digest());
     }
 
+    @Sentence(of = "Promise 36", says = "Computes a checksum.")
+    static void promise36_computesAChecksum(Checks c) {
+        ScrimshawKernel k = Cases.drawn("##/##");
+        ScrimshawKernel same = new ScrimshawKernel();
+        same.lineX(2);
+        same.lineY(2);
+        same.close(0, 1);
+        for (int n = 0; n < 3; n++) {
+            same.mirror(7);
+        }
+        c.due("the same regions, points and changes to undo by other calls", k.digest(), () -> same.digest());
+        c.due("it changes nothing", Cases.everything(Cases.drawn("##/##"), 0), () -> Cases.everything(k, 0));
+        Cases.Act[] others = {x -> x.addRectangle(0, 31, 31, 1, 1), x -> x.addRectangle(7, -32, -32, 1, 1), x -> x.lineY(1),
+            x -> x.clear(7), x -> x.undo(), x -> x.move(0, 0, 1), x -> x.move(0, 1, 0)};
+        for (int n = 0; n < others.length; n++) {
+            ScrimshawKernel other = Cases.drawn("##/##");
+            long was = other.digest();
+            others[n].on(other);
+            c.due("behind call " + n + " it is another one", false, () -> other.digest() == was);
+        }
+    }
+
     @Sentence(of = "Promise 36", says = "Returns d.")
     static void promise36_returnsD(Checks c) {
         // 8 regions of ten zeros each: 2543 times 31 to the power of 82, and 31 to that of 81 for the one point.

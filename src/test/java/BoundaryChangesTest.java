@@ -369,6 +369,16 @@ public final class BoundaryChangesTest {
                     () -> k.has(0, limit(way[0]), limit(way[1])));
             }
         }
+        // Between two fields that are two apart, the field in the middle is near to both.
+        String[] apart = {"#.#", "#/./#", "#.#/.../#.#"};
+        int[][] dues = {{15, 9}, {15, 9}, {25, 16}};
+        for (int n = 0; n < apart.length; n++) {
+            for (int kind = 0; kind < 2; kind++) {
+                ScrimshawKernel k = Cases.drawn(apart[n]);
+                k.grow(0, 1, kind);
+                c.due(apart[n] + " kind " + kind, dues[n][kind], () -> k.area(0));
+            }
+        }
         ScrimshawKernel k = Cases.busy();
         k.grow(3, 8, 0);
         k.grow(1, 0, 1);
@@ -547,6 +557,18 @@ public final class BoundaryChangesTest {
         c.due("none that is at the limits", 4092, () -> notched.area(1));
         notched.fill(2);
         c.due("none between fields at the limits", 4, () -> notched.area(2));
+        ScrimshawKernel open = Cases.drawn("####/##.#/#.##/.###");
+        open.fill(0);
+        c.due("none from which one can go out by points", 13, () -> open.area(0));
+        ScrimshawKernel closed = Cases.drawn("#####/##.##/#.###/#####");
+        closed.fill(0);
+        c.due("one of fields that have a point in common", "0 0 5 4", () -> Cases.strip(closed, 0, 0));
+        ScrimshawKernel spiral = Cases.spiral();
+        spiral.fill(0);
+        c.due("none that ends at a limit", 2111, () -> spiral.area(0));
+        spiral.addRectangle(0, -32, -31, 1, 1);
+        spiral.fill(0);
+        c.due("one that winds", 4096, () -> spiral.area(0));
     }
 
     @Sentence(of = "Promise 14", says = "Returns how many there were.")
@@ -554,6 +576,10 @@ public final class BoundaryChangesTest {
         c.due("of the empty region", 0, () -> Cases.busy().fill(3));
         c.due("of every field", 0, () -> Cases.busy().fill(1));
         c.due("of a ring", 1, () -> Cases.busy().fill(0));
+        c.due("of the frame at the limits: holes, not fields", 1, () -> Cases.frame().fill(0));
+        c.due("of two fields with a side in common", 1, () -> Cases.drawn("####/#..#/####").fill(0));
+        c.due("of two fields with a point in common", 1, () -> Cases.drawn("####/##.#/#.##/####").fill(0));
+        c.due("of one field, and two", 2, () -> Cases.drawn("######/#.#..#/######").fill(0));
         ScrimshawKernel k = Cases.sieve();
         c.due("of 31 by 31", 961, () -> k.fill(0));
         c.due("once more", 0, () -> k.fill(0));

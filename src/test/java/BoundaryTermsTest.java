@@ -331,6 +331,10 @@ public final class BoundaryTermsTest {
         c.due("with just a point in common", "2 2",
             () -> Cases.drawn("#./.#").pieces(0) + " " + Cases.drawn(".#/#.").pieces(0));
         c.due("along a long way", "1 2080", () -> Cases.comb().pieces(0) + " " + Cases.comb().keepPiece(0, -32, 31));
+        // 16 rounds of 64 - 4n: each has four sides of that less 5 fields, and each but the first one more ahead.
+        c.due("along a way that winds", "1 2111 2111",
+            () -> Cases.spiral().pieces(0) + " " + Cases.spiral().keepPiece(0, -2, 0) + " "
+                + Cases.spiral().keepPiece(0, -32, -32));
         c.due("along all limits", "1 252", () -> Cases.frame().pieces(0) + " " + Cases.frame().keepPiece(0, 31, 31));
         for (int n = -31; n < 31; n++) {
             int gap = n;
@@ -379,6 +383,12 @@ public final class BoundaryTermsTest {
         c.due("two with a point in common", 1, () -> allBut(0, 0, 1, 1).holes(0));
         c.due("two with a point in common, the other way", 1, () -> allBut(0, 0, 1, -1).holes(0));
         c.due("two apart", 2, () -> allBut(0, 0, 2, 0).holes(0));
+        ScrimshawKernel spiral = Cases.spiral();
+        c.due("one that winds is not finite, as it ends at a limit", 0, () -> spiral.holes(0));
+        spiral.addRectangle(0, -32, -31, 1, 1);
+        c.due("one that winds, closed at the limit", 1, () -> spiral.holes(0));
+        spiral.addRectangle(0, -2, -1, 1, 1);
+        c.due("one that winds, closed within, too", 2, () -> spiral.holes(0));
         c.due("one and two, apart along x", 2, () -> allBut(0, 0, 2, 0, 3, 0).holes(0));
         c.due("one and two, apart along y", 2, () -> allBut(0, 0, 0, 2, 0, 3).holes(0));
         c.due("one and one next to a field at the limit, apart", 1, () -> allBut(-32, 0, -30, 0, -29, 0).holes(0));

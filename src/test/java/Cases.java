@@ -93,6 +93,21 @@ final class Cases {
         return k;
     }
 
+    /** Region 0 winds inwards from (-32, -32), one field wide, to (-2, 0); so does what is around it: 64 calls. */
+    static ScrimshawKernel spiral() {
+        ScrimshawKernel k = new ScrimshawKernel();
+        for (int n = 0; n < 16; n++) {
+            int least = 2 * n - 32;
+            int size = 64 - 4 * n;
+            int ahead = n == 0 ? 0 : 1;
+            k.addRectangle(0, least - ahead, least, size + ahead, 1);
+            k.addRectangle(0, least + size - 1, least, 1, size);
+            k.addRectangle(0, least, least + size - 1, size, 1);
+            k.addRectangle(0, least, least + 2, 1, size - 2);
+        }
+        return k;
+    }
+
     /**
      * Region 0 a ring and a field at its corner, 1 every field, 2 the four at two limits, 3 empty, 4 a square of 5,
      * 5 one of 48, 6 two fields, 7 one; more changes than are kept; and a path of five points.

@@ -22,6 +22,7 @@ public final class LanguageTest {
 
     public static void main(String[] args) throws IOException {
         face();
+        signatures();
         members();
         String code = withoutTextsAndComments(Files.readString(SOURCE));
         words(code);
@@ -48,6 +49,20 @@ public final class LanguageTest {
         CHECKS.due("the face", due, () -> got);
         Constructor<?>[] constructors = ScrimshawKernel.class.getDeclaredConstructors();
         CHECKS.due("constructors", "[public ScrimshawKernel()]", () -> Arrays.toString(constructors));
+    }
+
+    /** The lines of the face, and the calls that the promises begin with, word by word: names of parameters, too. */
+    private static void signatures() throws IOException {
+        String source = Files.readString(SOURCE).replaceAll("\\s+", " ");
+        Matcher call = Pattern.compile("(?m)^ {4}(public .*);$|^`([^`]*)`: ").matcher(Files.readString(DOCUMENT));
+        int calls = 0;
+        while (call.find()) {
+            calls++;
+            String due = call.group(1) != null ? call.group(1) : "public " + call.group(2);
+            CHECKS.due(due + " stands in the class", true, () -> source.contains(" " + due + " { "));
+        }
+        int count = calls;
+        CHECKS.due("36 lines of the face, and as many promises", 72, () -> count);
     }
 
     private static String written(Method method) {
